@@ -98,7 +98,7 @@ public final class DelayDesk {
         if (!isIn(train, 0, TRAINS - 1) || net.cancelled[train] == is) {
             return false;
         }
-        net.cancelled[train] = is;
+        net.setCancelled(train, is);
         forgetAnswers();
         return true;
     }
@@ -121,9 +121,9 @@ public final class DelayDesk {
         }
         switch (what) {
             case 0:
-                return hasMinutes(e) ? minutes[e] : NONE;
+                return knowSpread() && net.there[e] ? minutes[e] : NONE;
             case 1:
-                return hasMinutes(e) ? minutes[e] - net.plan[e] : NONE;
+                return knowSpread() && net.there[e] ? minutes[e] - net.plan[e] : NONE;
             case 2:
                 return net.plan[e];
             case 3:
@@ -160,11 +160,11 @@ public final class DelayDesk {
     }
 
     public int cause(int e) {
-        return isLate(e) ? causeOfLate(e) : NONE;
+        return knowSpread() && isLate(e) ? causeOfLate(e) : NONE;
     }
 
     public int way(int e, int i) {
-        if (!isLate(e) || !isIn(i, 0, MOST_EVENTS - 1)) {
+        if (!knowSpread() || !isLate(e) || !isIn(i, 0, MOST_EVENTS - 1)) {
             return NONE;
         }
         Arrays.fill(seen, 0);
@@ -227,6 +227,9 @@ public final class DelayDesk {
     }
 
     public int recover() {
+        if (!knowSpread()) {
+            return NONE;
+        }
         int latest = NONE;
         for (int e = 0; e < net.events; e++) {
             if (isLate(e)) {
@@ -247,9 +250,9 @@ public final class DelayDesk {
             case 3:
                 return net.keptChanges();
             case 4:
-                return lateEvents();
+                return knowSpread() ? lateEvents() : 0;
             case 5:
-                return lateMinutes();
+                return knowSpread() ? lateMinutes() : 0;
             case 6:
                 return net.cancelledTrains();
             case 7:
@@ -282,17 +285,15 @@ public final class DelayDesk {
         return hasSpread;
     }
 
-    private boolean hasMinutes(int e) {
-        return net.isThere(e) && knowSpread();
-    }
+    // The questions from here on are asked only when the spread is known and there is one.
 
     private boolean isLate(int e) {
-        return net.hasEvent(e) && hasMinutes(e) && minutes[e] > net.plan[e];
+        return net.hasEvent(e) && net.there[e] && minutes[e] > net.plan[e];
     }
 
     /**
-     * Asked only with a spread. The document does not ask that the activity be KEPT: a broken change
-     * whose end just happens to stand at its minutes binds too.
+     * The document does not ask that the activity be KEPT: a broken change whose end just happens to
+     * stand at its minutes binds too.
      */
     private boolean binds(int a) {
         int end = net.to[a];
@@ -335,6 +336,7 @@ public final class DelayDesk {
         final int[] train = new int[MOST_EVENTS];
         final int[] plan = new int[MOST_EVENTS];
         final int[] source = new int[MOST_EVENTS];
+        final boolean[] there = new boolean[MOST_EVENTS];
         final int[] kind = new int[MOST_ACTIVITIES];
         final int[] from = new int[MOST_ACTIVITIES];
         final int[] to = new int[MOST_ACTIVITIES];
@@ -348,6 +350,7 @@ public final class DelayDesk {
             train[events] = ofTrain;
             plan[events] = atPlan;
             source[events] = 0;
+            there[events] = !cancelled[ofTrain];
             events++;
             return events - 1;
         }
@@ -382,12 +385,17 @@ public final class DelayDesk {
             return withinOneTrain == (train[begin] == train[end]);
         }
 
-        boolean isThere(int e) {
-            return !cancelled[train[e]];
+        void setCancelled(int which, boolean is) {
+            cancelled[which] = is;
+            for (int e = 0; e < events; e++) {
+                if (train[e] == which) {
+                    there[e] = !is;
+                }
+            }
         }
 
         boolean joinsThere(int a) {
-            return isThere(from[a]) && isThere(to[a]);
+            return there[from[a]] && there[to[a]];
         }
 
         /** Whether activity a holds its end back now. */
@@ -517,14 +525,17 @@ public final class DelayDesk {
 
         /** Whether group g misses a change or lacks a train. */
         boolean isStranded(int g, int[] minutes) {
-            return !net.isThere(first[g]) || fails(changeA[g], minutes) || fails(changeB[g], minutes);
+            return !net.there[first[g]] || fails(changeA[g], minutes) || fails(changeB[g], minutes);
         }
 
+        /** The train that a change leaves is the first one or that of the change before: it is looked at there. */
         private boolean fails(int change, int[] minutes) {
             if (change == NONE) {
                 return false;
             }
-            return !net.joinsThere(change) || (!net.kept[change] && !net.isObeyed(change, minutes));
+            int begin = net.from[change];
+            int end = net.to[change];
+            return !net.there[end] || (!net.kept[change] && minutes[end] < minutes[begin] + net.least[change]);
         }
 
         int lateness(int g, int[] minutes) {
@@ -546,6 +557,9 @@ public final class DelayDesk {
         /** By number of activities and event: the most LEAST of such a walk from there to the aim, or NONE. */
         private final int[][] most = new int[MOST_EVENTS + 1][MOST_EVENTS];
         private final int[] shortestAt = new int[MOST_EVENTS];
+        /** The activities that hold, by number. */
+        private final int[] holding = new int[MOST_ACTIVITIES];
+        private int held = 0;
         final int[] members = new int[MOST_EVENTS];
         int length = 0;
 
@@ -559,10 +573,21 @@ public final class DelayDesk {
          */
         void find() {
             length = 0;
+            gatherHolding();
             int size = shortest();
             int lowest = size == NONE ? NONE : lowestMember(size);
             if (lowest != NONE) {
                 follow(lowest, size);
+            }
+        }
+
+        private void gatherHolding() {
+            held = 0;
+            for (int a = 0; a < net.activities; a++) {
+                if (net.holds(a)) {
+                    holding[held] = a;
+                    held++;
+                }
             }
         }
 
@@ -595,9 +620,9 @@ public final class DelayDesk {
 
         private void lengthen(int size) {
             Arrays.fill(most[size], NONE);
-            for (int a = 0; a < net.activities; a++) {
-                int begin = net.from[a];
-                int reach = reachBy(a, size - 1);
+            for (int i = 0; i < held; i++) {
+                int begin = net.from[holding[i]];
+                int reach = reachBy(holding[i], size - 1);
                 if (reach > most[size][begin]) {
                     most[size][begin] = reach;
                 }
@@ -607,19 +632,20 @@ public final class DelayDesk {
         /** The most LEAST of a walk to the aim that begins with activity a and goes on by so many others. */
         private int reachBy(int a, int others) {
             int rest = most[others][net.to[a]];
-            return rest == NONE || !net.holds(a) ? NONE : rest + net.least[a];
+            return rest == NONE ? NONE : rest + net.least[a];
         }
 
         /** The lowest activity on any ring of that size; leaves the walks aimed at its beginning. */
         private int lowestMember(int size) {
-            for (int a = 0; a < net.activities; a++) {
-                if (shortestAt[net.from[a]] == size) {
-                    aimAt(net.from[a]);
+            for (int i = 0; i < held; i++) {
+                int begin = net.from[holding[i]];
+                if (shortestAt[begin] == size) {
+                    aimAt(begin);
                     for (int shorter = 1; shorter < size; shorter++) {
                         lengthen(shorter);
                     }
-                    if (reachBy(a, size - 1) > 0) {
-                        return a;
+                    if (reachBy(holding[i], size - 1) > 0) {
+                        return holding[i];
                     }
                 }
             }
@@ -641,11 +667,11 @@ public final class DelayDesk {
         }
 
         private int nextMember(int at, int others, int sum) {
-            for (int a = 0; a < net.activities; a++) {
-                if (net.from[a] == at) {
-                    int reach = reachBy(a, others);
+            for (int i = 0; i < held; i++) {
+                if (net.from[holding[i]] == at) {
+                    int reach = reachBy(holding[i], others);
                     if (reach != NONE && sum + reach > 0) {
-                        return a;
+                        return holding[i];
                     }
                 }
             }
@@ -711,7 +737,7 @@ public final class DelayDesk {
          */
         private static void decide(Choice c, int i, int keptSoFar) {
             if (i >= c.size || i >= MOST_CHOICES) {
-                c.weigh(c.rows[i], keptSoFar);
+                c.weigh(c.travellers.sum(c.rows[i]), keptSoFar);
                 return;
             }
             int change = c.changes[i];
@@ -725,8 +751,7 @@ public final class DelayDesk {
             decide(c, i + 1, keptSoFar);
         }
 
-        private void weigh(int[] minutes, int kept) {
-            long found = travellers.sum(minutes);
+        private void weigh(long found, int kept) {
             if (bestCost == NONE || found < bestCost || (found == bestCost && kept < bestKept)) {
                 bestCost = found;
                 bestKept = kept;
